@@ -42,6 +42,8 @@ public final class ClaimsTest {
         note(souls(7, 3, 5, 6), 0, 3, 7);
         note(souls(15, 3, 5, 9), 0, 2, 6);
         note(souls(24, 8, 16), 0, 2, 24);
+        // fewer marks come ahead of lesser bits
+        note(souls(11, 1, 2), 0, 1, 8);
         note(souls(255, 127, 191, 223, 239, 247, 251, 253), 0, 7, 254);
         NextLife x = souls(7, 3, 7);
         note(x, 0, NONE, NONE);
@@ -80,6 +82,8 @@ public final class ClaimsTest {
         due("19 one of two", x.share(0, 0), 1);
         due("19 two of two", x.share(0, 1), 1);
         due("19 nothing left", x.share(0, 2), 0);
+        x.box(0, 16, 8, 5);
+        due("19 all of it, for one mark", x.share(0, 4), 5);
         x.box(0, 0, 0, 50);
         due("19 nothing wanted", x.share(0, 0), 0);
         // the one who feels most comes first, though not the least
@@ -135,6 +139,11 @@ public final class ClaimsTest {
         due("20 coins", y.match(-1), 9);
         due("20 the empty one first", y.match(0), 4);
         due("20 the other", y.match(1), 5);
+        NextLife last = new NextLife();
+        last.birth(7, 1, 0);
+        last.box(5, 1, 1, 8);
+        due("20 the last soul", last.match(-1), 8);
+        due("20 the last box", last.match(7), 5);
         NextLife z = souls(1);
         z.box(4, 1, 1, 0);
         due("20 empty box", z.match(0), 4);

@@ -5,6 +5,7 @@ public final class ImagesTest {
     public static void main(String[] args) {
         keptAndRestored();
         keptAnew();
+        imagesAndSights();
         imagesAndThePad();
         told();
         toldOutside();
@@ -72,6 +73,23 @@ public final class ImagesTest {
         x.birth(7, 0, 0);
         x.restore(0);
         CHECK.isTrue("28 the newer one", second.equals(Check.snapshot(x)));
+    }
+
+    private static void imagesAndSights() {
+        NextLife x = new NextLife();
+        x.seen(7, true);
+        x.seen(3, false);
+        int fitting = x.laws(-1);
+        int first = x.laws(0);
+        x.image(0);
+        x.forget();
+        x.seen(128, false);
+        x.seen(64, true);
+        due("28 other laws", x.laws(0), 641);
+        x.restore(0);
+        due("28 sights", x.told(3), 2);
+        due("28 laws", x.laws(-1), fitting);
+        due("28 the first law", x.laws(0), first);
     }
 
     private static void imagesAndThePad() {

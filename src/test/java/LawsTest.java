@@ -10,6 +10,7 @@ public final class LawsTest {
         chances();
         chancesRefused();
         books();
+        booksOfLoans();
         booksInTheLastYear();
         booksRefused();
         CHECK.end();
@@ -68,6 +69,13 @@ public final class LawsTest {
         NextLife x = new NextLife();
         due("24 nobody lives", x.next(0), NONE);
         due("24 nobody lives", x.next(1), NONE);
+        NextLife first = new NextLife();
+        first.birth(0, 7, 0);
+        first.birth(1, 0, 0);
+        due("24 the first soul", first.next(0), 0);
+        due("24 its most", first.next(1), 640);
+        // weighed anew each time
+        due("24 its most again", first.next(1), 640);
         due("24 what -1", x.next(-1), NextLife.OUTSIDE);
         due("24 what 2", x.next(2), NextLife.OUTSIDE);
         x.birth(1, 0, 0);
@@ -154,6 +162,19 @@ public final class LawsTest {
                 due("26 nothing is done", x.told(101), 101);
                 due("26 nothing is done", x.told(12), 7);
             }
+        }
+    }
+
+    /** Into full purses what is lent is lost, so that the sum tells how much it was. */
+    private static void booksOfLoans() {
+        for (int seed = 0; seed < 10000; seed += 13) {
+            int draw = (75 * seed + 74) % 65537;
+            NextLife x = new NextLife();
+            for (int soul = 0; soul < 8; soul++) {
+                x.birth(soul, 0, 999);
+            }
+            boolean lends = (draw % 8 == 2 || draw % 8 == 3) && draw / 8 % 8 != draw / 64 % 8;
+            due("26 lent by " + seed, x.book(seed, 1, 1), 8 * 999 - (lends ? 1 + draw / 512 % 9 : 0));
         }
     }
 

@@ -72,6 +72,11 @@ public final class SoulsTest {
         due("2 was nobody", x.told(302), NextLife.NONE);
         due("2 owes nothing", x.owes(1, 2), 0);
         due("2 is owed nothing", x.owes(2, 1), 0);
+        Check.act(x, "B>AA=1CC=1A");
+        due("2 owed by the first", x.owes(0, 2), 1);
+        x.birth(2, 1, 1);
+        due("2 owes the first nothing", x.owes(2, 0), 0);
+        due("2 the first owes nothing", x.owes(0, 2), 0);
         Check.act(x, "C>D");
         due("2 dead one born", x.birth(2, 4, 4), 3);
         due("2 the other still was it", x.told(402), 2);
