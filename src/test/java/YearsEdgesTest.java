@@ -2,7 +2,7 @@
 public final class YearsEdgesTest {
     private static final Check CHECK = new Check();
     private static final Edges EDGES = new Edges(CHECK);
-    private static final int NONE = NextLife.NONE, UNKNOWN = NextLife.UNKNOWN, OUTSIDE = NextLife.OUTSIDE;
+    private static final int NONE = NextLife.NONE, OUTSIDE = NextLife.OUTSIDE;
     private static final int NO = NextLife.NO;
 
     public static void main(String[] args) {
