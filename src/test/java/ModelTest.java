@@ -5,8 +5,10 @@ import java.util.Random;
 /** Runs of calls drawn by lot (by fixed seeds), on the class and on the model side by side. */
 public final class ModelTest {
     private static final int RUNS = 400;
-    /** A step may take some seventy calls more, and an object has but 512. */
+    /** A step may take seventy calls more, and an object has but 512. */
     private static final int CALLS = 440;
+    /** More than the pad holds, so that it is full now and then. */
+    private static final int LONGEST_TEXT = 64;
 
     private final Random lot;
     private final NextLife x = new NextLife();
@@ -82,7 +84,7 @@ public final class ModelTest {
         if (lot.nextInt(10) == 0 && s.length() > 0) {
             s.setLength(s.length() - 1);
         }
-        return s.toString();
+        return s.substring(0, Math.min(s.length(), LONGEST_TEXT));
     }
 
     private String act() {

@@ -1,4 +1,4 @@
-/** The edges of promises 7 to 16: judge, done, behind, then, opens, two, chain, owes, netted, rings. */
+/** The edges of promises 7 and 8: judge, done, and why an act can not be. */
 public final class YearsEdgesTest {
     private static final Check CHECK = new Check();
     private static final Edges EDGES = new Edges(CHECK);
