@@ -34,6 +34,7 @@ public final class LawsEdgesTest {
         booksOfDeathsThatCanNotBe();
         booksAreNotDone();
         booksOfFullPurses();
+        booksAtTheMostThatIsOwed();
         CHECK.end();
     }
 
@@ -484,5 +485,28 @@ public final class LawsEdgesTest {
             due("26 nobody can come back", x.book(m, m, 0), 8);
             due("26 boxes are full or empty", x.book(m, m, 2) % 999, 0);
         }
+    }
+
+    private static void booksAtTheMostThatIsOwed() {
+        NextLife x = new NextLife();
+        x.birth(0, 0, 990);
+        x.birth(1, 0, 0);
+        x.box(0, 0, 0, 999);
+        x.box(1, 0, 0, 999);
+        // without a call to wipe, as calls are few
+        String loans = "A=9B".repeat(110) + "A0B1A=8B";
+        for (int i = 0; i < loans.length(); i++) {
+            x.say(loans.charAt(i));
+            if (i % 60 == 59 || i == loans.length() - 1) {
+                x.done();
+            }
+        }
+        due("14 one less than the most", x.owes(1, 0), 998);
+        // 720974 is 11 times 65537 and 67: A lends B 1 coin, which is lost; 655949 is 10 times 65537 and 579: 2
+        // coins, which would be too many
+        book(x, 9612, 1, 2, 1989, 0);
+        book(x, 8745, 1, 2, 1990, 0);
+        due("8 the most", Check.act(x, "A=1B"), 1);
+        book(x, 9612, 1, 2, 1989, 0);
     }
 }
